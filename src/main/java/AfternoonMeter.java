@@ -386,18 +386,22 @@ public final class AfternoonMeter {
         }
     }
 
+    private boolean covers(int nap, int minute) {
+        return napStarts[nap] <= minute && minute < napEnds[nap];
+    }
+
     private void changeCover(int nap, int by) {
-        int end = napEnds[nap];
-        for (int m = napStarts[nap]; m < end; m++) {
-            napsOver[m] += by;
+        for (int m = 0; m < MINUTES; m++) {
+            if (covers(nap, m)) {
+                napsOver[m] += by;
+            }
         }
     }
 
     private int countAlone(int nap) {
         int alone = 0;
-        int end = napEnds[nap];
-        for (int m = napStarts[nap]; m < end; m++) {
-            if (napsOver[m] == 1) {
+        for (int m = 0; m < MINUTES; m++) {
+            if (napsOver[m] == 1 && covers(nap, m)) {
                 alone++;
             }
         }
