@@ -6,6 +6,7 @@ import java.util.function.Supplier;
 /** Compares answers with those that are due, prints the wrong ones, and counts both. */
 final class Check {
     private final String name;
+    private String about = "";
     private int right;
     private int wrong;
 
@@ -13,12 +14,21 @@ final class Check {
         this.name = name;
     }
 
+    /** What the comparisons from now on are about; it is printed with each wrong answer. */
+    void about(String what) {
+        about = what + ": ";
+    }
+
+    int made() {
+        return right + wrong;
+    }
+
     void same(String what, Object got, Object due) {
         if (got.equals(due)) {
             right++;
         } else {
             wrong++;
-            System.out.println(name + ": " + what + " answered " + got + ", due is " + due);
+            System.out.println(name + ": " + about + what + " answered " + got + ", due is " + due);
         }
     }
 
@@ -45,6 +55,13 @@ final class Check {
 
     void index(String what, Supplier<AfternoonMeter> maker, Consumer<AfternoonMeter> call) {
         refused(what, IndexOutOfBoundsException.class, maker, call);
+    }
+
+    /** The question must leave the object as one that never got it. */
+    void changesNothing(String what, Supplier<AfternoonMeter> maker, Consumer<AfternoonMeter> question) {
+        AfternoonMeter meter = maker.get();
+        question.accept(meter);
+        same(what + ", what is left behind", behaviour(meter), behaviour(maker.get()));
     }
 
     void end() {

@@ -39,15 +39,35 @@ final class Meters {
         return x;
     }
 
+    /** The full one at the end of its afternoon. */
+    static AfternoonMeter ended() {
+        AfternoonMeter x = full();
+        x.pass(5);
+        return x;
+    }
+
     static AfternoonMeter withNap(int from, int to) {
         AfternoonMeter x = new AfternoonMeter();
         x.addNap(from, to);
         return x;
     }
 
+    static AfternoonMeter withBee(int period, int beat) {
+        AfternoonMeter x = new AfternoonMeter();
+        x.addBee(period, beat);
+        return x;
+    }
+
     static AfternoonMeter withTea(int room, int rate, int sip) {
         AfternoonMeter x = new AfternoonMeter();
         x.setTea(room, rate, sip);
+        return x;
+    }
+
+    /** So many minutes have gone by in a new object without naps and bees. */
+    static AfternoonMeter after(int minutes) {
+        AfternoonMeter x = new AfternoonMeter();
+        x.pass(minutes);
         return x;
     }
 }
