@@ -12,7 +12,7 @@ import java.util.TreeSet;
 import java.util.regex.Matcher;
 import java.util.regex.Pattern;
 
-/** The class has just the face that the document shows (LANGUAGE.md, rules 1 and 5), and its file the signs it may have. */
+/** The class has just the document's face (LANGUAGE.md, rules 1 and 5), and its file the signs it may have. */
 public final class FaceTest {
     private static final Check check = new Check("FaceTest");
     private static final Path DOCUMENT = Path.of("../shared/DOC.md");
@@ -75,8 +75,9 @@ public final class FaceTest {
         for (Field field : AfternoonMeter.class.getDeclaredFields()) {
             int is = field.getModifiers();
             check.same(field.getName() + " is private", Modifier.isPrivate(is), true);
-            check.same(field.getName() + " is static, not final", Modifier.isStatic(is) && !Modifier.isFinal(is), false);
-            fields += Modifier.isStatic(is) ? 0 : 1;
+            boolean isStatic = Modifier.isStatic(is);
+            check.same(field.getName() + " is static, not final", isStatic && !Modifier.isFinal(is), false);
+            fields += isStatic ? 0 : 1;
         }
         check.same("some twenty fields at most", fields <= 20, true);
     }
@@ -84,9 +85,9 @@ public final class FaceTest {
     private static void sourceKeepsToTheRules() throws IOException {
         String source = Files.readString(SOURCE);
         check.same("signs 1 to 127 alone", source.chars().allMatch(c -> c >= 1 && c <= 127), true);
-        for (String word : new String[] {"import", "package", "synchronized", "assert", "catch", "finally", "->", "::"}) {
-            boolean there = Pattern.compile(word.matches("[a-z]+") ? "\\b" + word + "\\b" : word).matcher(source).find();
-            check.same("the source has " + word, there, false);
+        for (String word : List.of("import", "package", "synchronized", "assert", "catch", "finally", "->", "::")) {
+            String pattern = word.matches("[a-z]+") ? "\\b" + word + "\\b" : word;
+            check.same("the source has " + word, Pattern.compile(pattern).matcher(source).find(), false);
         }
     }
 }

@@ -170,9 +170,11 @@ public final class ModelTest {
         int nap = around(0, Math.max(0, model.naps.size() - 1));
         boolean isNap = within(nap, 0, model.naps.size() - 1);
         switch (kind) {
-            case 20 -> same(where + "isAsleep " + m, () -> x.isAsleep(m), isMinute, ARGUMENT, () -> model.napsAt(m) > 0);
+            case 20 -> same(where + "isAsleep " + m, () -> x.isAsleep(m), isMinute, ARGUMENT,
+                () -> model.napsAt(m) > 0);
             case 21 -> same(where + "napsAt " + m, () -> x.napsAt(m), isMinute, ARGUMENT, () -> model.napsAt(m));
-            case 22 -> same(where + "allShadows " + m, () -> x.allShadows(m), isMinute, ARGUMENT, () -> model.allShadows(m));
+            case 22 -> same(where + "allShadows " + m, () -> x.allShadows(m), isMinute, ARGUMENT,
+                () -> model.allShadows(m));
             case 23 -> same(where + "startOf " + nap, () -> x.startOf(nap), isNap, INDEX, () -> model.naps.get(nap)[0]);
             case 24 -> same(where + "lengthOf " + nap, () -> x.lengthOf(nap), isNap, INDEX,
                 () -> model.naps.get(nap)[1] - model.naps.get(nap)[0]);
@@ -190,8 +192,8 @@ public final class ModelTest {
                 isStick ? ARGUMENT : INDEX, () -> model.shadowAt(stick, m));
         } else {
             int length = around(0, 106);
-            same(where + "minuteOfShadow " + stick + " " + length, () -> x.minuteOfShadow(stick, length), isStick, INDEX,
-                () -> model.minuteOfShadow(stick, length));
+            same(where + "minuteOfShadow " + stick + " " + length, () -> x.minuteOfShadow(stick, length),
+                isStick, INDEX, () -> model.minuteOfShadow(stick, length));
         }
     }
 
@@ -199,7 +201,8 @@ public final class ModelTest {
         boolean isBee = within(bee, 0, model.bees.size() - 1);
         switch (kind) {
             case 29 -> same(where + "ticksOf " + bee, () -> x.ticksOf(bee), isBee, INDEX, () -> model.ticksOf(bee));
-            case 30 -> same(where + "measuredBy " + bee, () -> x.measuredBy(bee), isBee, INDEX, () -> model.measuredBy(bee));
+            case 30 -> same(where + "measuredBy " + bee, () -> x.measuredBy(bee), isBee, INDEX,
+                () -> model.measuredBy(bee));
             case 31, 32 -> same(where + "errorOf " + bee, () -> x.errorOf(bee), isBee, INDEX, () -> model.errorOf(bee));
             default -> same(where + "nextTick " + bee, () -> x.nextTick(bee), isBee, INDEX, () -> model.nextTick(bee));
         }
@@ -214,7 +217,8 @@ public final class ModelTest {
             case 35 -> check.same(where + "afternoon", x.afternoon(), model.afternoon);
             case 36 -> check.same(where + "minute", x.minute(), model.minute);
             case 37 -> check.same(where + "awakeMinutes", x.awakeMinutes(), model.awakeBetween(0, model.minute));
-            case 38 -> check.same(where + "sleptMinutes", x.sleptMinutes(), model.minute - model.awakeBetween(0, model.minute));
+            case 38 -> check.same(where + "sleptMinutes", x.sleptMinutes(),
+                model.minute - model.awakeBetween(0, model.minute));
             case 39 -> check.same(where + "longestAwake", x.longestAwake(), model.longestAwake());
             case 40 -> check.same(where + "sticks", x.sticks(), model.sticks.size());
             case 41 -> check.same(where + "naps", x.naps(), model.naps.size());
